@@ -1533,7 +1533,7 @@ public final class FlowReader {
             add(variable);
         }
 
-        /** Puts the newest statement's pairs of feature and variable, from item skipped on, in order. */
+        /** Orders the newest statement's pairs of feature and variable, from item skipped on. */
         void sortPairs(int skipped) {
             int from = at(itemStarts, size - 1) + skipped;
             for (int i = from + 2; i + 1 < itemSize; i += 2) {
@@ -1650,7 +1650,11 @@ public final class FlowReader {
         private void single(int node, int x) {
             int before = last;
             int base = freshSize;
-            into(node, x);
+            if (x == NONE) {
+                plainItem(node);
+            } else {
+                into(node, x);
+            }
             if (freshSize == base) {
                 return;
             }
@@ -1666,7 +1670,31 @@ public final class FlowReader {
             freshSize = base;
         }
 
-        /** An exp into x; an item has no x. */
+        private void plainItem(int node) {
+            int a = tree.a(node);
+            switch (tree.kind(node)) {
+                case Tree.SKIP:
+                    emit(Kernel.SKIP, NONE, NONE, NONE);
+                    break;
+                case Tree.UNIFY:
+                    unify(a, tree.b(node));
+                    break;
+                case Tree.RAISE:
+                    emit(Kernel.RAISE, asVariable(a), NONE, NONE);
+                    break;
+                case Tree.SHOW:
+                    emit(Kernel.SHOW, asVariable(a), NONE, NONE);
+                    break;
+                case Tree.TRY:
+                    attempt(node);
+                    break;
+                default:
+                    into(node, NONE);
+                    break;
+            }
+        }
+
+        /** An exp into x; what is an item as well has no x as such. */
         private void into(int node, int x) {
             int a = tree.a(node);
             switch (tree.kind(node)) {
@@ -1708,21 +1736,6 @@ public final class FlowReader {
                 case Tree.THREAD:
                     emit(Kernel.THREAD, NONE, body(a, x), NONE);
                     break;
-                case Tree.TRY:
-                    attempt(node);
-                    break;
-                case Tree.RAISE:
-                    emit(Kernel.RAISE, asVariable(a), NONE, NONE);
-                    break;
-                case Tree.SHOW:
-                    emit(Kernel.SHOW, asVariable(a), NONE, NONE);
-                    break;
-                case Tree.UNIFY:
-                    unify(a, tree.b(node));
-                    break;
-                case Tree.SKIP:
-                    emit(Kernel.SKIP, NONE, NONE, NONE);
-                    break;
                 default:
                     // _ makes nothing.
                     break;
@@ -1754,7 +1767,7 @@ public final class FlowReader {
             return variable;
         }
 
-        /** The variable for an exp: itself when it is one, otherwise new, with nothing in it yet. */
+        /** The variable for an exp: itself when it is one, otherwise new, and still empty. */
         private int target(int node) {
             int variable = isVariable(node) ? scope.variable(tree.a(node)) : makeFresh();
             tree.setVariable(node, variable);
@@ -1774,7 +1787,9 @@ public final class FlowReader {
             } else if (isVariable(right)) {
                 into(left, scope.variable(tree.a(right)));
             } else {
-                into(right, asVariable(left));
+                int variable = target(left);
+                into(left, variable);
+                into(right, variable);
             }
         }
 

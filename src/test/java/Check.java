@@ -48,10 +48,8 @@ final class Check {
         String shown = text.length() > 200 ? text.substring(0, 200) + " .." : text;
         due("read of " + shown, reader.read(), NONE);
         due("fault of " + shown, reader.fault(0) + " at " + reader.fault(1), kind + " at " + place);
-        due("counts of " + shown, counts(reader), kind == 0 ? counts(reader) : "0 7 10");
-        if (kind != 0) {
-            due("uses of " + shown, reader.uses(), 0);
-        }
+        due("counts of " + shown, counts(reader), "0 7 10");
+        due("uses of " + shown, reader.uses(), 0);
     }
 
     /** The fault is due where the mark ^ stands in the text, which is taken out of it. */
@@ -66,7 +64,7 @@ final class Check {
         due("fault of " + shown, reader.fault(0) + " at " + reader.fault(1), "0 at -1");
     }
 
-    /** Statements are due, as many as lines are told, the last of the program's row told by first. */
+    /** These statements are due, one a line, and the program's first one among them. */
     void dueKernel(String text, int first, String... lines) {
         FlowReader reader = new FlowReader();
         putAll(reader, text);
@@ -126,10 +124,6 @@ final class Check {
             name.append((char) reader.nameByte(v, k));
         }
         return name.toString();
-    }
-
-    static String repeat(String part, int times) {
-        return part.repeat(times);
     }
 
     void end() {
