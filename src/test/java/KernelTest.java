@@ -17,6 +17,7 @@ public final class KernelTest {
         unified();
         locals();
         newVariablesOfExps();
+        readingsOfOneObject();
         CHECK.end();
     }
 
@@ -73,6 +74,10 @@ public final class KernelTest {
                 "OPERATE x7 a1 [0 6] > 1", "OPERATE x0 a1 [6 7]", "LOCAL a0 [7]");
         due("Wait = Send div Wait mod Send", 2,
                 "OPERATE x7 a3 [6 0] > 1", "OPERATE x0 a4 [7 6]", "LOCAL a0 [7]");
+        due("Wait = Send + Wait mod Send", 2,
+                "OPERATE x7 a4 [0 6] > 1", "OPERATE x0 a0 [6 7]", "LOCAL a0 [7]");
+        due("Wait = Send - Wait div Send", 2,
+                "OPERATE x7 a3 [0 6] > 1", "OPERATE x0 a1 [6 7]", "LOCAL a0 [7]");
         due("Wait = Send < Wait", 0, "OPERATE x0 a5 [6 0]");
         due("Wait = Send =< Wait", 0, "OPERATE x0 a6 [6 0]");
         due("Wait = Send == Wait", 0, "EQUAL x0 [6 0]");
@@ -171,6 +176,36 @@ public final class KernelTest {
         due("{Wait thread 1 + Send end}", 5,
                 "NUMBER x8 a1 > 1", "OPERATE x7 a0 [8 6]", "LOCAL a0 [8]", "THREAD a2 > 4",
                 "APPLY x0 [7]", "LOCAL a3 [7]");
+    }
+
+    /** What was read before leaves nothing behind, with or without a fault. */
+    private static void readingsOfOneObject() {
+        String[] texts = {
+            "show [a b c d]", "show [d c b a]", "local X in X = f(d:1 a:2)", "show f(b:1 a:2 e:3)",
+            "local Y X in Y = X end", "show X", "case Wait of f(Y d:X) then skip end", "_ = Send",
+            "local Y in case Y of f(d:X b:_) then show X end end", "skip", "show [a 3a", "show Y",
+        };
+        FlowReader reader = new FlowReader();
+        for (int i = 0; i < 3 * texts.length; i++) {
+            String text = texts[(5 * i) % texts.length];
+            reader.cut(0);
+            Check.putAll(reader, text);
+            reader.read();
+            CHECK.due("one object's reading of " + text, all(reader), all(Check.after(text)));
+        }
+    }
+
+    private static String all(FlowReader reader) {
+        StringBuilder all = new StringBuilder(Check.kernel(reader));
+        all.append("\n    fault ").append(reader.fault(0)).append(' ').append(reader.fault(1));
+        all.append(" uses ").append(reader.uses()).append("\n    ").append(Check.counts(reader));
+        for (int t = 0; t < reader.count(2); t++) {
+            all.append(' ').append(Check.atom(reader, t));
+        }
+        for (int v = 0; v < reader.count(1); v++) {
+            all.append(' ').append(Check.name(reader, v));
+        }
+        return all.toString();
     }
 
     private static void due(String text, int first, String... lines) {
