@@ -145,7 +145,7 @@ public final class FlowReader {
 
     /** The bytes that were put. */
     private static final class Text {
-        static final int MOST = 8192;
+        private static final int MOST = 8192;
 
         private final byte[] bytes = new byte[MOST];
         private int length;
@@ -155,7 +155,7 @@ public final class FlowReader {
         }
 
         /** Byte 0 stands in no text, so it tells that there is none. */
-        int at(int place) {
+        int byteAt(int place) {
             return place >= 0 && place < length && place < bytes.length ? bytes[place] & 255 : 0;
         }
 
@@ -182,7 +182,7 @@ public final class FlowReader {
         int line(int place) {
             int line = 1;
             for (int i = 0; i < place && i < length; i++) {
-                if (at(i) == 10) {
+                if (byteAt(i) == 10) {
                     line++;
                 }
             }
@@ -192,7 +192,7 @@ public final class FlowReader {
         int column(int place) {
             int before = -1;
             for (int i = 0; i < place && i < length; i++) {
-                if (at(i) == 10) {
+                if (byteAt(i) == 10) {
                     before = i;
                 }
             }
@@ -216,6 +216,9 @@ public final class FlowReader {
     private static final class Names {
         static final int LONGEST = 24;
         static final int BASIS = 7;
+        static final int NIL = 2;
+        static final int BAR = 3;
+        static final int NO_MATCH = 4;
 
         private static final String WORD_TEXT =
                 "skip local in end if then else case of do proc fun thread try catch raise show div mod";
@@ -252,7 +255,7 @@ public final class FlowReader {
         void reset() {
             // The newest entry is the head of its chain, so they go from the last one on.
             for (int entry = size - 1; entry >= FIXED; entry--) {
-                set(heads, FlowReader.at(hashes, entry), FlowReader.at(chain, entry));
+                set(heads, at(hashes, entry), at(chain, entry));
             }
             size = FIXED;
             atoms = ATOMS;
@@ -274,22 +277,22 @@ public final class FlowReader {
         /** The entry of the name that was tried; NONE when there is no room for one more. */
         int settle(int kind) {
             int hash = hashOfTried();
-            int entry = FlowReader.at(heads, hash);
+            int entry = at(heads, hash);
             for (int i = 0; i < ROOM && entry != NONE; i++) {
                 if (isTried(entry)) {
                     return entry;
                 }
-                entry = FlowReader.at(chain, entry);
+                entry = at(chain, entry);
             }
             return size - WORDS < MOST ? add(kind, hash) : NONE;
         }
 
         int kindOf(int entry) {
-            return FlowReader.at(kinds, entry);
+            return at(kinds, entry);
         }
 
         int atomOf(int entry) {
-            return FlowReader.at(atomNumbers, entry);
+            return at(atomNumbers, entry);
         }
 
         int atoms() {
@@ -297,7 +300,7 @@ public final class FlowReader {
         }
 
         int entryOfAtom(int atom) {
-            return atom >= 0 && atom < atoms ? FlowReader.at(atomEntries, atom) : NONE;
+            return atom >= 0 && atom < atoms ? at(atomEntries, atom) : NONE;
         }
 
         int entryOfBasis(int i) {
@@ -305,7 +308,7 @@ public final class FlowReader {
         }
 
         int lengthOf(int entry) {
-            return entry >= 0 && entry < size ? FlowReader.at(lengths, entry) : 0;
+            return entry >= 0 && entry < size ? at(lengths, entry) : 0;
         }
 
         int byteOf(int entry, int k) {
@@ -350,7 +353,7 @@ public final class FlowReader {
             set(lengths, entry, tried);
             set(kinds, entry, kind);
             set(hashes, entry, hash);
-            set(chain, entry, FlowReader.at(heads, hash));
+            set(chain, entry, at(heads, hash));
             set(heads, hash, entry);
             set(atomNumbers, entry, NONE);
             if (kind == Tokens.ATOM) {
@@ -483,16 +486,16 @@ public final class FlowReader {
         }
 
         int kind(int i) {
-            return i >= 0 && i < size ? FlowReader.at(kinds, i) : END;
+            return i >= 0 && i < size ? at(kinds, i) : END;
         }
 
         int start(int i) {
-            return i >= 0 && i < size ? FlowReader.at(starts, i) : text.length();
+            return i >= 0 && i < size ? at(starts, i) : text.length();
         }
 
         /** An INTEGER's own, an ATOM's number, a VARIABLE's entry. */
         int value(int i) {
-            return i >= 0 && i < size ? FlowReader.at(values, i) : NONE;
+            return i >= 0 && i < size ? at(values, i) : NONE;
         }
 
         /** The fault of token i, 0 for none. */
@@ -501,14 +504,14 @@ public final class FlowReader {
         }
 
         private void one(int place) {
-            int first = text.at(place);
+            int first = text.byteAt(place);
             end = place + 1;
             if (first >= 'a' && first <= 'z') {
                 name(place, ATOM);
             } else if (first >= 'A' && first <= 'Z') {
                 name(place, VARIABLE);
             } else if (first == '_') {
-                trouble = isNamePart(text.at(end)) ? NO_TOKEN : 0;
+                trouble = isNamePart(text.byteAt(end)) ? NO_TOKEN : 0;
                 add(ANY, place, NONE);
             } else if (isDigit(first) || first == '~') {
                 integer(place);
@@ -526,7 +529,7 @@ public final class FlowReader {
             }
             names.begin();
             for (int i = place; i < end; i++) {
-                names.tryByte(text.at(i));
+                names.tryByte(text.byteAt(i));
             }
             int entry = names.settle(kind);
             if (entry == NONE) {
@@ -538,18 +541,18 @@ public final class FlowReader {
         }
 
         private void integer(int place) {
-            boolean minus = text.at(place) == '~';
+            boolean minus = text.byteAt(place) == '~';
             int from = minus ? place + 1 : place;
             long sum = 0;
             int i = from;
-            for (; i < text.length() && isDigit(text.at(i)); i++) {
-                sum = Math.min(HUGE, sum * 10 + text.at(i) - '0');
+            for (; i < text.length() && isDigit(text.byteAt(i)); i++) {
+                sum = Math.min(HUGE, sum * 10 + text.byteAt(i) - '0');
             }
             end = i;
             long value = minus ? -sum : sum;
             if (i == from) {
                 trouble = NO_TOKEN;
-            } else if (isNamePart(text.at(i))) {
+            } else if (isNamePart(text.byteAt(i))) {
                 trouble = LETTER_BEHIND;
             } else if (value < LEAST || value > GREATEST) {
                 trouble = TOO_LARGE;
@@ -558,8 +561,8 @@ public final class FlowReader {
         }
 
         private void sign(int place) {
-            int first = text.at(place);
-            int second = text.at(place + 1);
+            int first = text.byteAt(place);
+            int second = text.byteAt(place + 1);
             int index = SIGNS.indexOf((char) first);
             if (index < 0) {
                 trouble = NO_TOKEN;
@@ -582,7 +585,7 @@ public final class FlowReader {
         private int pastBlanks(int from) {
             boolean remark = false;
             for (int i = from; i < text.length(); i++) {
-                int b = text.at(i);
+                int b = text.byteAt(i);
                 if (remark) {
                     remark = b != 10;
                 } else if (b == '%') {
@@ -596,7 +599,7 @@ public final class FlowReader {
 
         private int pastName(int from) {
             for (int i = from; i < text.length(); i++) {
-                if (!isNamePart(text.at(i))) {
+                if (!isNamePart(text.byteAt(i))) {
                     return i;
                 }
             }
@@ -818,14 +821,11 @@ public final class FlowReader {
         private static final int USES_CELLS = 1;
         private static final int USES_TRY = 2;
 
-        private static final int NIL = 2;
-        private static final int BAR_ATOM = 3;
-
         private final Tokens tokens;
         private final Names names;
         private final Tree tree;
         private final Scope scope;
-        private int place;
+        private int token;
         private int depth;
         private int marks;
         private int trouble;
@@ -838,7 +838,7 @@ public final class FlowReader {
         }
 
         int program() {
-            place = NONE;
+            token = NONE;
             depth = 0;
             marks = 0;
             trouble = 0;
@@ -859,15 +859,15 @@ public final class FlowReader {
 
         /** Where in the text the fault is. */
         int place() {
-            return tokens.start(place);
+            return tokens.start(token);
         }
 
         private int kind() {
-            return tokens.kind(place);
+            return tokens.kind(token);
         }
 
         private int value() {
-            return tokens.value(place);
+            return tokens.value(token);
         }
 
         /** Has an answer for its callers' sake alone: a fault ends the reading. */
@@ -877,8 +877,8 @@ public final class FlowReader {
         }
 
         private void advance() {
-            place++;
-            trouble = tokens.troubleAt(place);
+            token++;
+            trouble = tokens.troubleAt(token);
             if (trouble != 0) {
                 throw new IllegalStateException();
             }
@@ -1068,8 +1068,8 @@ public final class FlowReader {
 
         private boolean bracketIsNext() {
             int length = names.lengthOf(names.entryOfAtom(value()));
-            return tokens.kind(place + 1) == Tokens.OPEN
-                    && tokens.start(place + 1) == tokens.start(place) + length;
+            return tokens.kind(token + 1) == Tokens.OPEN
+                    && tokens.start(token + 1) == tokens.start(token) + length;
         }
 
         private int record() {
@@ -1078,7 +1078,7 @@ public final class FlowReader {
             open();
             int first = NONE;
             if (kind() != Tokens.CLOSE) {
-                first = isFeature(kind()) && tokens.kind(place + 1) == Tokens.COLON
+                first = isFeature(kind()) && tokens.kind(token + 1) == Tokens.COLON
                         ? featuredFields() : fields();
             }
             close(Tokens.CLOSE);
@@ -1168,7 +1168,7 @@ public final class FlowReader {
                 first = first == NONE ? pair : first;
             }
             close(Tokens.CLOSE_SQUARE);
-            int nil = tree.make(Tree.ATOM, NIL, NONE, NONE);
+            int nil = tree.make(Tree.ATOM, Names.NIL, NONE, NONE);
             tree.setB(last, nil);
             return first == NONE ? nil : first;
         }
@@ -1295,7 +1295,7 @@ public final class FlowReader {
                     int first = slot(bindings, 1, 1);
                     need(Tokens.BAR);
                     tree.chain(first, slot(bindings, 2, 2));
-                    return tree.make(Tree.PATTERN, 2, BAR_ATOM, first);
+                    return tree.make(Tree.PATTERN, 2, Names.BAR, first);
                 default:
                     return fail(MISPLACED);
             }
@@ -1444,8 +1444,6 @@ public final class FlowReader {
 
         /** Behind the operations of OPERATE: it makes an EQUAL. */
         static final int EQUALITY = 7;
-        static final int BAR = 3;
-        static final int NO_MATCH = 4;
 
         /** No token makes more than two of each: in a list an element and its pair. */
         static final int MOST_VARIABLES = Names.BASIS + 2 * Tokens.MOST + 100;
@@ -1825,7 +1823,7 @@ public final class FlowReader {
                 int right = tree.b(pair);
                 int head = target(left);
                 int tail = target(right);
-                emit(Kernel.RECORD, whole, Kernel.BAR, NONE);
+                emit(Kernel.RECORD, whole, Names.BAR, NONE);
                 kernel.addPair(1, head);
                 kernel.addPair(2, tail);
                 if (!isVariable(left)) {
@@ -2005,7 +2003,7 @@ public final class FlowReader {
         /** What a case without else does when nothing fits: a LOCAL of its own. */
         private int noMatch() {
             int variable = kernel.makeVariable(NONE);
-            int told = kernel.make(Kernel.ATOM, variable, Kernel.NO_MATCH, NONE);
+            int told = kernel.make(Kernel.ATOM, variable, Names.NO_MATCH, NONE);
             kernel.link(told, kernel.make(Kernel.RAISE, variable, NONE, NONE));
             int around = kernel.make(Kernel.LOCAL, NONE, told, NONE);
             kernel.add(variable);

@@ -14,6 +14,7 @@ public final class KernelTest {
         cases();
         casesWithoutElse();
         threadsAndTries();
+        itemsInARow();
         unified();
         locals();
         newVariablesOfExps();
@@ -46,6 +47,8 @@ public final class KernelTest {
         due("Wait = f( )", 0, "ATOM x0 a10");
         due("Wait = f(a_:Wait a:Wait aB:Wait a0:Wait ab:Wait 10:Wait 9:Wait)", 0,
                 "RECORD x0 a10 [9 0 10 0 -13 0 -15 0 -14 0 -12 0 -16 0]");
+        due("Wait = f(true:Send 1:Wait).true", 2,
+                "RECORD x7 a10 [1 0 -1 6] > 1", "SELECT x0 a7", "LOCAL a0 [7]");
         due("Wait = f((Send))", 0, "RECORD x0 a10 [1 6]");
     }
 
@@ -146,6 +149,20 @@ public final class KernelTest {
         due("Wait = thread 1 end", 1, "NUMBER x0 a1", "THREAD a0");
         due("try raise a catch E then show E end", 4,
                 "ATOM x7 a10 > 1", "RAISE x7", "LOCAL a0 [7]", "SHOW x8", "TRY x8 a2 b3");
+    }
+
+    /** One of each behind another, and what each of them leaves for the next new variable. */
+    private static void itemsInARow() {
+        due("try skip catch E then skip end try skip catch E then skip end raise 1 show 2", 2,
+                "SKIP", "SKIP", "TRY x7 a0 b1 > 5", "SKIP", "SKIP", "TRY x8 a3 b4 > 8",
+                "NUMBER x9 a1 > 7", "RAISE x9", "LOCAL a6 [9] > 11", "NUMBER x10 a2 > 10",
+                "SHOW x10", "LOCAL a9 [10]");
+        due("skip thread skip end if Wait then skip end Wait = proc {A} skip end show 1", 0,
+                "SKIP > 2", "SKIP", "THREAD a1 > 4", "SKIP", "IF x0 a3 > 6", "SKIP",
+                "PROCEDURE x0 a5 [7] > 9", "NUMBER x8 a1 > 8", "SHOW x8", "LOCAL a7 [8]");
+        due("skip case Wait of A|_ then skip else skip end local B in skip end {Wait 1}", 0,
+                "SKIP > 3", "SKIP", "SKIP", "CASE x0 a1 b2 [2 3 1 7 2 -1] > 5", "SKIP",
+                "LOCAL a4 [8] > 8", "NUMBER x9 a1 > 7", "APPLY x0 [9]", "LOCAL a6 [9]");
     }
 
     private static void unified() {

@@ -7,6 +7,7 @@ public final class TextTest {
         putAnswersTheLength();
         putIsRefusedWhenFull();
         cutKeepsTheFirstBytes();
+        whatWasCutIsNotRead();
         countsOfOtherWhats();
         textAndReadingAreApart();
         CHECK.end();
@@ -75,6 +76,16 @@ public final class TextTest {
         due("put behind what is left", reader.put('['), 6);
         reader.read();
         due("the new byte is read", reader.fault(0) + " at " + reader.fault(1), "11 at 6");
+    }
+
+    private static void whatWasCutIsNotRead() {
+        for (String text : new String[] {"show _a", "show 1a", "show 12", "show a=", "skip%\nX"}) {
+            FlowReader reader = new FlowReader();
+            Check.putAll(reader, text);
+            reader.cut(text.length() - 1);
+            reader.read();
+            due("fault of " + text + " without its last byte", reader.fault(0), 0);
+        }
     }
 
     private static void countsOfOtherWhats() {
