@@ -64,6 +64,12 @@ final class Check {
         due("fault of " + shown, reader.fault(0) + " at " + reader.fault(1), "0 at -1");
     }
 
+    /** The last text that is still allowed, and the first that is not, with its fault at the mark. */
+    void dueEdge(String allowed, String marked, int kind) {
+        dueNoFault(allowed);
+        dueFaultAtMark(marked, kind);
+    }
+
     /** These statements are due, one a line, and the program's first one among them. */
     void dueKernel(String text, int first, String... lines) {
         FlowReader reader = new FlowReader();
@@ -124,6 +130,54 @@ final class Check {
             name.append((char) reader.nameByte(v, k));
         }
         return name.toString();
+    }
+
+    /** All that the last reading made, in one text. */
+    static String all(FlowReader reader) {
+        StringBuilder all = new StringBuilder(kernel(reader));
+        all.append("\n    fault ").append(told(reader));
+        all.append(" uses ").append(reader.uses()).append("\n    ").append(counts(reader));
+        for (int t = 0; t < reader.count(2); t++) {
+            all.append(' ').append(atom(reader, t));
+        }
+        for (int v = 0; v < reader.count(1); v++) {
+            all.append(' ').append(name(reader, v));
+        }
+        return all.toString();
+    }
+
+    /** The fault's kind, place, line and column. */
+    static String told(FlowReader reader) {
+        return reader.fault(0) + " " + reader.fault(1) + " " + reader.fault(2) + " " + reader.fault(3);
+    }
+
+    static String many(String part, int times) {
+        return part.repeat(times);
+    }
+
+    /** The name with 1 behind it, with 2, and so on up to n. */
+    static String numbered(String name, int n) {
+        return numbered(name, n, "");
+    }
+
+    static String numbered(String name, int n, String behind) {
+        StringBuilder all = new StringBuilder();
+        for (int i = 1; i <= n; i++) {
+            all.append(i == 1 ? "" : " ").append(name).append(i).append(behind);
+        }
+        return all.toString();
+    }
+
+    static boolean isLetter(int b) {
+        return b >= 65 && b <= 90 || b >= 97 && b <= 122;
+    }
+
+    static boolean isDigit(int b) {
+        return b >= 48 && b <= 57;
+    }
+
+    static boolean isNamePart(int b) {
+        return isLetter(b) || isDigit(b) || b == 95;
     }
 
     void end() {

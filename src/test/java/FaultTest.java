@@ -205,15 +205,11 @@ public final class FaultTest {
         reader.cut(0);
         Check.putAll(reader, "skip");
         reader.read();
-        CHECK.due("no fault behind a better reading", told(reader), "0 -1 -1 -1");
+        CHECK.due("no fault behind a better reading", Check.told(reader), "0 -1 -1 -1");
     }
 
     private static void place(String text, String want) {
-        CHECK.due("fault of " + text, told(Check.after(text)), want);
-    }
-
-    private static String told(FlowReader reader) {
-        return reader.fault(0) + " " + reader.fault(1) + " " + reader.fault(2) + " " + reader.fault(3);
+        CHECK.due("fault of " + text, Check.told(Check.after(text)), want);
     }
 
     private static void at(String marked, int kind) {

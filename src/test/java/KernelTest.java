@@ -208,21 +208,8 @@ public final class KernelTest {
             reader.cut(0);
             Check.putAll(reader, text);
             reader.read();
-            CHECK.due("one object's reading of " + text, all(reader), all(Check.after(text)));
+            CHECK.due("one object's reading of " + text, Check.all(reader), Check.all(Check.after(text)));
         }
-    }
-
-    private static String all(FlowReader reader) {
-        StringBuilder all = new StringBuilder(Check.kernel(reader));
-        all.append("\n    fault ").append(reader.fault(0)).append(' ').append(reader.fault(1));
-        all.append(" uses ").append(reader.uses()).append("\n    ").append(Check.counts(reader));
-        for (int t = 0; t < reader.count(2); t++) {
-            all.append(' ').append(Check.atom(reader, t));
-        }
-        for (int v = 0; v < reader.count(1); v++) {
-            all.append(' ').append(Check.name(reader, v));
-        }
-        return all.toString();
     }
 
     private static void due(String text, int first, String... lines) {
