@@ -188,7 +188,7 @@ public final class TokenEdgeTest {
             CHECK.dueNoFault("show Wait." + word + "_");
             CHECK.dueNoFault("show Wait." + word.substring(0, word.length() - 1));
             at("case 1 of ^" + word + " then skip end", 11);
-            String upper = word.toUpperCase().substring(0, 1) + word.substring(1);
+            String upper = Character.toUpperCase(word.charAt(0)) + word.substring(1);
             CHECK.dueNoFault("local " + upper + " in show " + upper + " end");
             at("local ^" + word + " in skip end", 11);
         }
