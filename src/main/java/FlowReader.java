@@ -49,8 +49,10 @@ public final class FlowReader {
         forgetFault();
         kernel.clear();
         tokens.scan();
-        int program = parsed();
-        if (program == NONE) {
+        int program;
+        try {
+            program = parser.program();
+        } catch (IllegalStateException refused) {
             keepFault();
             names.reset();
             return NONE;
@@ -107,14 +109,6 @@ public final class FlowReader {
 
     public int uses() {
         return marks;
-    }
-
-    private int parsed() {
-        try {
-            return parser.program();
-        } catch (IllegalStateException refused) {
-            return NONE;
-        }
     }
 
     private void forgetFault() {
@@ -300,7 +294,7 @@ public final class FlowReader {
         }
 
         int entryOfAtom(int atom) {
-            return atom >= 0 && atom < atoms ? at(atomEntries, atom) : NONE;
+            return atom >= 0 && atom < atoms && atom < MOST ? atomEntries[atom] : NONE;
         }
 
         int entryOfBasis(int i) {
@@ -308,11 +302,11 @@ public final class FlowReader {
         }
 
         int lengthOf(int entry) {
-            return entry >= 0 && entry < size ? at(lengths, entry) : 0;
+            return entry >= 0 && entry < size && entry < ROOM ? lengths[entry] : 0;
         }
 
         int byteOf(int entry, int k) {
-            if (k < 0 || k >= lengthOf(entry)) {
+            if (entry < 0 || entry >= size || entry >= ROOM || k < 0 || k >= lengths[entry]) {
                 return NONE;
             }
             int place = entry * LONGEST + k;
@@ -486,16 +480,16 @@ public final class FlowReader {
         }
 
         int kind(int i) {
-            return i >= 0 && i < size ? at(kinds, i) : END;
+            return i >= 0 && i < size && i < kinds.length ? kinds[i] : END;
         }
 
         int start(int i) {
-            return i >= 0 && i < size ? at(starts, i) : text.length();
+            return i >= 0 && i < size && i < starts.length ? starts[i] : text.length();
         }
 
         /** An INTEGER's own, an ATOM's number, a VARIABLE's entry. */
         int value(int i) {
-            return i >= 0 && i < size ? at(values, i) : NONE;
+            return i >= 0 && i < size && i < values.length ? values[i] : NONE;
         }
 
         /** The fault of token i, 0 for none. */
@@ -721,6 +715,18 @@ public final class FlowReader {
             return at(variables, node);
         }
 
+        /** Whether one of a chain of FIELDs or SLOTs has the feature. */
+        boolean has(int first, int feature) {
+            int node = first;
+            for (int i = 0; i < MOST && node != NONE; i++) {
+                if (at(as, node) == feature) {
+                    return true;
+                }
+                node = at(nexts, node);
+            }
+            return false;
+        }
+
         void setB(int node, int b) {
             set(bs, node, b);
         }
@@ -769,18 +775,21 @@ public final class FlowReader {
         }
 
         int bind(int entry) {
+            if (size >= MOST || entry < 0 || entry >= newest.length) {
+                return NONE;
+            }
             int binding = size;
-            set(entries, binding, entry);
-            set(hidden, binding, at(newest, entry));
-            set(variables, binding, NONE);
-            set(newest, entry, binding);
+            entries[binding] = entry;
+            hidden[binding] = newest[entry];
+            variables[binding] = NONE;
+            newest[entry] = binding;
             size++;
             return binding;
         }
 
         /** What a name means here; NONE when nothing around binds it. */
         int meaning(int entry) {
-            return at(newest, entry);
+            return entry >= 0 && entry < newest.length ? newest[entry] : NONE;
         }
 
         /** Ends the bindings from first on up to the one before end, which were the newest. */
@@ -826,6 +835,8 @@ public final class FlowReader {
         private final Tree tree;
         private final Scope scope;
         private int token;
+        private int kindHere;
+        private int valueHere;
         private int depth;
         private int marks;
         private int trouble;
@@ -846,7 +857,7 @@ public final class FlowReader {
             scope.clear();
             advance();
             int body = block(false);
-            return kind() == Tokens.END ? body : fail(MISPLACED);
+            return kindHere == Tokens.END ? body : fail(MISPLACED);
         }
 
         int marks() {
@@ -862,14 +873,6 @@ public final class FlowReader {
             return tokens.start(token);
         }
 
-        private int kind() {
-            return tokens.kind(token);
-        }
-
-        private int value() {
-            return tokens.value(token);
-        }
-
         /** Has an answer for its callers' sake alone: a fault ends the reading. */
         private int fail(int fault) {
             trouble = SYNTAX + fault;
@@ -882,10 +885,12 @@ public final class FlowReader {
             if (trouble != 0) {
                 throw new IllegalStateException();
             }
+            kindHere = tokens.kind(token);
+            valueHere = tokens.value(token);
         }
 
         private void need(int kind) {
-            if (kind() != kind) {
+            if (kindHere != kind) {
                 fail(MISPLACED);
             }
             advance();
@@ -900,13 +905,16 @@ public final class FlowReader {
         }
 
         private void close(int kind) {
-            need(kind);
+            if (kindHere != kind) {
+                fail(MISPLACED);
+            }
             depth--;
+            advance();
         }
 
         /** A body, or a value. */
         private int block(boolean valued) {
-            if (valued && kind() != Tokens.DO) {
+            if (valued && kindHere != Tokens.DO) {
                 return tree.make(Tree.BODY, NONE, exp(), NONE);
             }
             if (valued) {
@@ -914,7 +922,7 @@ public final class FlowReader {
             }
             int first = oneItem();
             int last = first;
-            for (int i = 0; i < Tokens.MOST && beginsItem(kind()); i++) {
+            for (int i = 0; i < Tokens.MOST && beginsItem(kindHere); i++) {
                 last = tree.chain(last, oneItem());
             }
             if (!valued) {
@@ -925,7 +933,7 @@ public final class FlowReader {
         }
 
         private int oneItem() {
-            switch (kind()) {
+            switch (kindHere) {
                 case Tokens.SKIP:
                     return leaf(Tree.SKIP, NONE);
                 case Tokens.LOCAL:
@@ -947,9 +955,9 @@ public final class FlowReader {
                 default:
                     break;
             }
-            boolean braced = kind() == Tokens.OPEN_BRACE;
+            boolean braced = kindHere == Tokens.OPEN_BRACE;
             int left = exp();
-            if (kind() == Tokens.IS) {
+            if (kindHere == Tokens.IS) {
                 advance();
                 return tree.make(Tree.UNIFY, left, exp(), NONE);
             }
@@ -958,15 +966,15 @@ public final class FlowReader {
 
         private int exp() {
             int first = compared();
-            if (kind() != Tokens.BAR) {
+            if (kindHere != Tokens.BAR) {
                 return first;
             }
             int whole = tree.make(Tree.PAIR, first, NONE, NONE);
             int pair = whole;
-            for (int i = 0; i < Tokens.MOST && kind() == Tokens.BAR; i++) {
+            for (int i = 0; i < Tokens.MOST && kindHere == Tokens.BAR; i++) {
                 advance();
                 int right = compared();
-                if (kind() == Tokens.BAR) {
+                if (kindHere == Tokens.BAR) {
                     right = tree.make(Tree.PAIR, right, NONE, NONE);
                 }
                 tree.setB(pair, right);
@@ -983,7 +991,7 @@ public final class FlowReader {
             int addition = NONE;
             int product = part();
             for (int i = 0; i < Tokens.MOST; i++) {
-                int operation = operation(kind());
+                int operation = operation(kindHere);
                 if (isProduct(operation)) {
                     advance();
                     product = tree.make(Tree.OPERATE, product, part(), operation);
@@ -1007,7 +1015,7 @@ public final class FlowReader {
 
         private int part() {
             int part = atomic();
-            for (int i = 0; i < Tokens.MOST && kind() == Tokens.DOT; i++) {
+            for (int i = 0; i < Tokens.MOST && kindHere == Tokens.DOT; i++) {
                 advance();
                 part = tree.make(Tree.SELECT, part, feature(NONE, 1), NONE);
                 advance();
@@ -1016,11 +1024,11 @@ public final class FlowReader {
         }
 
         private int atomic() {
-            switch (kind()) {
+            switch (kindHere) {
                 case Tokens.INTEGER:
-                    return leaf(Tree.NUMBER, value());
+                    return leaf(Tree.NUMBER, valueHere);
                 case Tokens.ATOM:
-                    return bracketIsNext() ? record() : leaf(Tree.ATOM, value());
+                    return bracketIsNext() ? record() : leaf(Tree.ATOM, valueHere);
                 case Tokens.VARIABLE:
                     return leaf(Tree.VARIABLE, meaning());
                 case Tokens.ANY:
@@ -1036,7 +1044,7 @@ public final class FlowReader {
                     return apply();
                 case Tokens.PROC:
                 case Tokens.FUN:
-                    return procedure(kind() == Tokens.FUN);
+                    return procedure(kindHere == Tokens.FUN);
                 case Tokens.LOCAL:
                     return local(true);
                 case Tokens.IF:
@@ -1056,7 +1064,7 @@ public final class FlowReader {
         }
 
         private int meaning() {
-            int binding = scope.meaning(value());
+            int binding = scope.meaning(valueHere);
             if (binding == NONE) {
                 fail(UNBOUND);
             }
@@ -1067,18 +1075,18 @@ public final class FlowReader {
         }
 
         private boolean bracketIsNext() {
-            int length = names.lengthOf(names.entryOfAtom(value()));
+            int length = names.lengthOf(names.entryOfAtom(valueHere));
             return tokens.kind(token + 1) == Tokens.OPEN
                     && tokens.start(token + 1) == tokens.start(token) + length;
         }
 
         private int record() {
-            int label = value();
+            int label = valueHere;
             advance();
             open();
             int first = NONE;
-            if (kind() != Tokens.CLOSE) {
-                first = isFeature(kind()) && tokens.kind(token + 1) == Tokens.COLON
+            if (kindHere != Tokens.CLOSE) {
+                first = isFeature(kindHere) && tokens.kind(token + 1) == Tokens.COLON
                         ? featuredFields() : fields();
             }
             close(Tokens.CLOSE);
@@ -1090,7 +1098,7 @@ public final class FlowReader {
         private int fields() {
             int first = NONE;
             int last = NONE;
-            for (int n = 1; n <= WIDEST + 1 && kind() != Tokens.CLOSE; n++) {
+            for (int n = 1; n <= WIDEST + 1 && kindHere != Tokens.CLOSE; n++) {
                 if (n > WIDEST) {
                     refuseExp();
                 }
@@ -1103,7 +1111,7 @@ public final class FlowReader {
         private int featuredFields() {
             int first = NONE;
             int last = NONE;
-            for (int n = 1; n <= WIDEST + 1 && kind() != Tokens.CLOSE; n++) {
+            for (int n = 1; n <= WIDEST + 1 && kindHere != Tokens.CLOSE; n++) {
                 int feature = feature(first, n);
                 advance();
                 need(Tokens.COLON);
@@ -1115,14 +1123,14 @@ public final class FlowReader {
 
         /** The feature at this token, the nth behind the chain of those that begins with first. */
         private int feature(int first, int n) {
-            if (!isFeature(kind())) {
+            if (!isFeature(kindHere)) {
                 fail(MISPLACED);
             }
-            boolean integer = kind() == Tokens.INTEGER;
-            int feature = integer ? value() : -1 - value();
+            boolean integer = kindHere == Tokens.INTEGER;
+            int feature = integer ? valueHere : -1 - valueHere;
             // An INTEGER below 1 looks like an atom's feature, but no record has that one.
             boolean wrong = integer && (feature < 1 || feature > WIDEST);
-            if (!wrong && has(first, feature)) {
+            if (!wrong && tree.has(first, feature)) {
                 fail(FEATURE_TWICE);
             }
             if (n > WIDEST) {
@@ -1131,26 +1139,15 @@ public final class FlowReader {
             return wrong ? fail(NO_FEATURE) : feature;
         }
 
-        private boolean has(int first, int feature) {
-            int node = first;
-            for (int i = 0; i < WIDEST && node != NONE; i++) {
-                if (tree.a(node) == feature) {
-                    return true;
-                }
-                node = tree.next(node);
-            }
-            return false;
-        }
-
         /** One exp too many: at its first token what is told before that comes first. */
         private void refuseExp() {
-            if (!beginsExp(kind())) {
+            if (!beginsExp(kindHere)) {
                 fail(MISPLACED);
             }
-            if (kind() == Tokens.VARIABLE) {
+            if (kindHere == Tokens.VARIABLE) {
                 meaning();
             }
-            if (depth >= DEEPEST && opens(kind())) {
+            if (depth >= DEEPEST && opens(kindHere)) {
                 fail(TOO_DEEP);
             }
             fail(TOO_WIDE);
@@ -1161,7 +1158,7 @@ public final class FlowReader {
             open();
             int first = NONE;
             int last = NONE;
-            for (int i = 0; i < Tokens.MOST && kind() != Tokens.CLOSE_SQUARE; i++) {
+            for (int i = 0; i < Tokens.MOST && kindHere != Tokens.CLOSE_SQUARE; i++) {
                 int pair = tree.make(Tree.PAIR, exp(), NONE, NONE);
                 tree.setB(last, pair);
                 last = pair;
@@ -1177,7 +1174,7 @@ public final class FlowReader {
             open();
             int first = exp();
             int last = first;
-            for (int n = 1; n <= WIDEST + 1 && kind() != Tokens.CLOSE_BRACE; n++) {
+            for (int n = 1; n <= WIDEST + 1 && kindHere != Tokens.CLOSE_BRACE; n++) {
                 if (n > WIDEST) {
                     refuseExp();
                 }
@@ -1189,7 +1186,7 @@ public final class FlowReader {
 
         private int procedure(boolean valued) {
             open();
-            if (kind() != Tokens.OPEN_BRACE) {
+            if (kindHere != Tokens.OPEN_BRACE) {
                 fail(MISPLACED);
             }
             open();
@@ -1205,7 +1202,7 @@ public final class FlowReader {
         private int local(boolean valued) {
             open();
             int first = scope.next();
-            if (kind() != Tokens.VARIABLE) {
+            if (kindHere != Tokens.VARIABLE) {
                 fail(MISPLACED);
             }
             int end = variables();
@@ -1219,7 +1216,7 @@ public final class FlowReader {
         /** Binds a row of VARIABLEs: the binding behind theirs. */
         private int variables() {
             int first = scope.next();
-            for (int n = 1; n <= WIDEST + 1 && kind() == Tokens.VARIABLE; n++) {
+            for (int n = 1; n <= WIDEST + 1 && kindHere == Tokens.VARIABLE; n++) {
                 bind(first, n);
                 advance();
             }
@@ -1228,10 +1225,10 @@ public final class FlowReader {
 
         /** Binds the VARIABLE here, the nth of a row whose bindings begin with first. */
         private int bind(int first, int n) {
-            if (scope.meaning(value()) >= first) {
+            if (scope.meaning(valueHere) >= first) {
                 fail(BOUND_TWICE);
             }
-            return n > WIDEST ? fail(TOO_WIDE) : scope.bind(value());
+            return n > WIDEST ? fail(TOO_WIDE) : scope.bind(valueHere);
         }
 
         private int choice(boolean valued) {
@@ -1239,7 +1236,7 @@ public final class FlowReader {
             int condition = exp();
             need(Tokens.THEN);
             int then = block(valued);
-            if (valued && kind() != Tokens.ELSE) {
+            if (valued && kindHere != Tokens.ELSE) {
                 fail(MISPLACED);
             }
             int otherwise = otherwise(valued);
@@ -1248,7 +1245,7 @@ public final class FlowReader {
         }
 
         private int otherwise(boolean valued) {
-            if (kind() != Tokens.ELSE) {
+            if (kindHere != Tokens.ELSE) {
                 return NONE;
             }
             advance();
@@ -1258,12 +1255,12 @@ public final class FlowReader {
         private int cases(boolean valued) {
             open();
             int subject = exp();
-            if (kind() != Tokens.OF) {
+            if (kindHere != Tokens.OF) {
                 fail(MISPLACED);
             }
             int first = NONE;
             int last = NONE;
-            for (int i = 0; i < Tokens.MOST && kind() == Tokens.OF; i++) {
+            for (int i = 0; i < Tokens.MOST && kindHere == Tokens.OF; i++) {
                 advance();
                 int bindings = scope.next();
                 int pattern = pattern();
@@ -1279,14 +1276,14 @@ public final class FlowReader {
         }
 
         private int pattern() {
-            int value = value();
-            switch (kind()) {
+            int value = valueHere;
+            switch (kindHere) {
                 case Tokens.INTEGER:
                     advance();
                     return tree.make(Tree.PATTERN, 0, value, NONE);
                 case Tokens.ATOM:
                     advance();
-                    return kind() == Tokens.OPEN
+                    return kindHere == Tokens.OPEN
                             ? tree.make(Tree.PATTERN, 2, value, slots())
                             : tree.make(Tree.PATTERN, 1, value, NONE);
                 case Tokens.VARIABLE:
@@ -1303,11 +1300,11 @@ public final class FlowReader {
 
         private int slots() {
             open();
-            boolean featured = isFeature(kind());
+            boolean featured = isFeature(kindHere);
             int bindings = scope.next();
             int first = NONE;
             int last = NONE;
-            for (int n = 1; n <= WIDEST + 1 && kind() != Tokens.CLOSE; n++) {
+            for (int n = 1; n <= WIDEST + 1 && kindHere != Tokens.CLOSE; n++) {
                 int feature = n;
                 if (featured) {
                     feature = feature(first, n);
@@ -1323,9 +1320,9 @@ public final class FlowReader {
 
         private int slot(int bindings, int feature, int n) {
             int binding = NONE;
-            if (kind() == Tokens.VARIABLE) {
+            if (kindHere == Tokens.VARIABLE) {
                 binding = bind(bindings, n);
-            } else if (kind() != Tokens.ANY) {
+            } else if (kindHere != Tokens.ANY) {
                 fail(MISPLACED);
             } else if (n > WIDEST) {
                 fail(TOO_WIDE);
@@ -1346,7 +1343,7 @@ public final class FlowReader {
             open();
             int body = block(false);
             need(Tokens.CATCH);
-            if (kind() != Tokens.VARIABLE) {
+            if (kindHere != Tokens.VARIABLE) {
                 fail(MISPLACED);
             }
             int caught = bind(scope.next(), 1);

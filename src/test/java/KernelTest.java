@@ -19,7 +19,14 @@ public final class KernelTest {
         locals();
         newVariablesOfExps();
         readingsOfOneObject();
+        exampleOfTheReadme();
         CHECK.end();
+    }
+
+    private static void exampleOfTheReadme() {
+        due("local X in X = 1 + 2 show X end", 5,
+                "NUMBER x8 a1 > 1", "NUMBER x9 a2 > 2", "OPERATE x7 a0 [8 9]", "LOCAL a0 [8 9] > 4",
+                "SHOW x7", "LOCAL a3 [7]");
     }
 
     private static void plainItems() {
